@@ -814,7 +814,7 @@ public final class TaxWorkbench {
         }
     }
 
-    /** A case and its computation, made once and used for every case. */
+    /** A case and its computation. One object serves all cases, as the room for objects is small. */
     private static final class Assessment {
         int earnedIncome;
         int income;
@@ -873,13 +873,11 @@ public final class TaxWorkbench {
             parts[CHARGED] = parts[BASE] + chargesDue(rules) * MILLION;
             rest = parts[CHARGED];
             for (int i = 0; i < rules.credits; i++) {
-                int[] numbers = rules.creditRow[i].numbers;
-                creditAmounts[i][VALUE] = valueOf(numbers);
-                useCredit(numbers[KIND], broughtAmounts[i], creditAmounts[i]);
+                creditAmounts[i][VALUE] = valueOf(rules.creditRow[i].numbers);
+                useCredit(i, rules.creditRow[i].numbers[KIND]);
             }
         }
 
-        /** The rate times what the income is above a start. */
         long shareAbove(int start, int rate) {
             int above = income - factor * start;
             return above > 0 ? above * rate * MILLIONTHS_OF_A_THOUSANDTH : 0;
@@ -910,14 +908,17 @@ public final class TaxWorkbench {
             return sum;
         }
 
-        void useCredit(int kind, long brought, long[] amounts) {
-            long usable = kind == CARRIED ? amounts[VALUE] + brought : amounts[VALUE];
+        void useCredit(int credit, int kind) {
+            long usable = creditAmounts[credit][VALUE];
+            if (kind == CARRIED) {
+                usable += broughtAmounts[credit];
+            }
             long used = kind == REFUNDABLE ? usable : Math.min(usable, Math.max(0, rest));
             rest -= used;
-            amounts[USED] = used;
-            amounts[LOST] = kind == LIMITED ? usable - used : 0;
-            amounts[CARRIED_ON] = kind == CARRIED ? usable - used : 0;
-            amounts[REST] = rest;
+            creditAmounts[credit][USED] = used;
+            creditAmounts[credit][LOST] = kind == LIMITED ? usable - used : 0;
+            creditAmounts[credit][CARRIED_ON] = kind == CARRIED ? usable - used : 0;
+            creditAmounts[credit][REST] = rest;
         }
 
         long valueOf(int[] numbers) {
@@ -932,7 +933,7 @@ public final class TaxWorkbench {
             return Math.max(0, value - shareAbove(numbers[START], numbers[PHASE_OUT]));
         }
 
-        /** A part of the curve, counted as its kinks' causes are. */
+        /** Counts the parts as the causes of kinks are counted. */
         long curvePart(int part) {
             if (part < PARTS_BEFORE_CREDITS) {
                 return parts[SCHEDULED + part];
