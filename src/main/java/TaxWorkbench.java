@@ -87,7 +87,6 @@ public final class TaxWorkbench {
         draft = new Rules();
         ledger = new Ledger();
         saved = new Ledger();
-        hasSaved = false;
         history = new History();
         assessment = new Assessment();
         couple = new Couple();
@@ -473,10 +472,8 @@ public final class TaxWorkbench {
             bracketThresholds = new int[MOST_BRACKETS];
             bracketRates = new int[MOST_BRACKETS];
             settings = new int[SETTINGS];
-            charges = 0;
             chargeThresholds = new int[MOST_CHARGES];
             chargeAmounts = new int[MOST_CHARGES];
-            credits = 0;
             creditRow = new Credit[MOST_CREDITS];
             for (int i = 0; i < MOST_CREDITS; i++) {
                 creditRow[i] = new Credit();
@@ -617,7 +614,6 @@ public final class TaxWorkbench {
             for (int i = 0; i < PEOPLE; i++) {
                 partners[i] = NOBODY;
             }
-            years = 0;
         }
 
         void copyFrom(Ledger from) {
@@ -641,8 +637,6 @@ public final class TaxWorkbench {
             for (int i = 0; i < MOST_CHANGES; i++) {
                 ring[i] = new Ledger();
             }
-            oldest = 0;
-            size = 0;
         }
 
         void remember(Ledger ledger) {
@@ -677,14 +671,9 @@ public final class TaxWorkbench {
 
         RuleText() {
             characters = new int[MOST_CHARACTERS];
-            length = 0;
             fault = NO_FAULT;
-            items = 0;
-            allowed = true;
-            position = 0;
             // Each number takes a character at least.
             numbers = new int[MOST_CHARACTERS];
-            numberCount = 0;
         }
 
         /** Items that are not allowed do not end the reading, as a fault behind them comes first. */
@@ -826,14 +815,9 @@ public final class TaxWorkbench {
         long rest;
 
         Assessment() {
-            earnedIncome = 0;
-            income = 0;
-            dependents = 0;
-            factor = 1;
             broughtAmounts = new long[MOST_CREDITS];
             parts = new long[TAX_PARTS];
             creditAmounts = new long[MOST_CREDITS][CREDIT_AMOUNTS];
-            rest = 0;
         }
 
         void takeAlone(Ledger ledger, int person, int theirDependents) {
@@ -954,12 +938,6 @@ public final class TaxWorkbench {
 
         Couple() {
             assessment = new Assessment();
-            first = 0;
-            second = 0;
-            allDependents = 0;
-            togetherTax = 0;
-            apartTax = 0;
-            firstGets = 0;
         }
 
         void settle(Ledger ledger, int one, int other) {

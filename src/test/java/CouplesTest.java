@@ -9,12 +9,14 @@ public final class CouplesTest {
     public static void main(String[] args) {
         bothWays();
         jointCarried();
+        jointPhaseIn();
         divisions();
         allDependentsToOne();
         equalTaxesAreSeparate();
         totals();
         yearsApart();
         yearsTogether();
+        yearsOfTwoCouples();
         refusals();
         checks.end();
     }
@@ -65,6 +67,16 @@ public final class CouplesTest {
         couple(bench, 3, 130000000 - 40000000 - 60000000, 0, 0);
         bench.setPerson(2, 720, 0, 0);
         couple(bench, 3, 132000000 - 40000000 - 60000000, 1000000, 0);
+    }
+
+    private static void jointPhaseIn() {
+        TaxWorkbench bench = Checks.with("r50,100,100,20");
+        bench.setPerson(1, 200, 60, 0);
+        bench.setPerson(0, 100, 30, 0);
+        bench.marry(0, 1);
+        couple(bench, 1, -30000000 + 3800000, -20000000 + 3200000 - 10000000 + 600000, 0);
+        bench.setPerson(1, 2000, 60, 0);
+        couple(bench, 0, -50000000 + 39800000, -10800000 - 9400000, 0);
     }
 
     private static void divisions() {
@@ -175,6 +187,34 @@ public final class CouplesTest {
         bench.undo();
         checks.same("years taken back", bench.years(), 3);
         checks.same("carried taken back", bench.carried(4, 0), 50000000);
+    }
+
+    /** Nobody has asked for a couple's tax before the year is closed. */
+    private static void yearsOfTwoCouples() {
+        TaxWorkbench bench = Checks.with("b0:100;k10,0,0,0;k1,0,0,0*");
+        bench.setPerson(1, 30, 0, 2);
+        bench.setPerson(2, 200, 0, 0);
+        bench.setPerson(4, 105, 0, 1);
+        bench.setPerson(5, 20, 0, 0);
+        bench.marry(5, 4);
+        bench.marry(1, 2);
+        bench.closeYear();
+        long[][] due = {{10, 0}, {7, 0}, {0, 0}, {10, 0}, {0, 500}, {8, 0}};
+        for (int i = 0; i < 6; i++) {
+            checks.same("carried of " + i, bench.carried(i, 0), due[i][0] * 1000000);
+            checks.same("the other one of " + i, bench.carried(i, 1), due[i][1] * 1000);
+        }
+        bench.clearRules();
+        Checks.rules(bench, "m80,999;k1,0,0,0;k2,0,0,0;k3,0,0,0;k4,0,0,0;k5,0,0,0;k6,0,0,0");
+        bench.closeYear();
+        for (int i = 0; i < 6; i++) {
+            checks.same("credit " + i + " of 4, jointly", bench.carried(4, i), 1000000L * (i + 1));
+            checks.same("credit " + i + " of 5, jointly", bench.carried(5, i), 0);
+        }
+        bench.undo();
+        bench.undo();
+        bench.undo();
+        checks.same("division with what is carried", bench.division(4), 0);
     }
 
     private static void refusals() {

@@ -14,6 +14,7 @@ public final class ExplorerTest {
         causes();
         creditCauses();
         everythingElseAsItIs();
+        everyCallForItsPerson();
         promise37();
         promise38();
         promise39();
@@ -67,6 +68,8 @@ public final class ExplorerTest {
     private static void firstAndLastPlaces() {
         TaxWorkbench bench = Checks.with("b0:0,1:100,9998:200,9999:300");
         kinks(bench, 0, 1, 0, 9998, 0);
+        kinks(Checks.with("b0:0,9999:300"), 0);
+        checks.same("nothing steep at 9999", Checks.with("b0:0,9999:300").steepest(0), 0);
         checks.same("above -1", bench.nextKink(0, -1), 1);
         checks.same("above 0", bench.nextKink(0, 0), 1);
         checks.same("above 1", bench.nextKink(0, 1), 9998);
@@ -114,6 +117,27 @@ public final class ExplorerTest {
         kinks(bench, 2, 440, 0);
         bench.setPerson(2, 5, 60, 3);
         kinks(bench, 2, 490, 4);
+    }
+
+    /** Each call follows one for another person. */
+    private static void everyCallForItsPerson() {
+        TaxWorkbench bench = Checks.with("b0:100,500:200");
+        bench.setPerson(1, 5, 600, 0);
+        bench.setPerson(2, 5, 200, 0);
+        checks.same("tax of 0", bench.tax(0), 0);
+        checks.same("curve of 2", bench.curve(2, 400), 70000000);
+        checks.same("curve of 1", bench.curve(1, 400), 150000000);
+        checks.same("rate of 2", bench.marginalRate(2, 100), 100000);
+        checks.same("rate of 1", bench.marginalRate(1, 100), 200000);
+        checks.same("kinks of 2", bench.kinks(2), 1);
+        checks.same("kinks of 1", bench.kinks(1), 0);
+        checks.same("kink of 2", bench.nextKink(2, 0), 300);
+        checks.refused("kink of 1", ELEMENT, () -> bench.nextKink(1, 0));
+        checks.same("cause of 2", bench.kinkCause(2, 300), 0);
+        checks.refused("cause of 1", ELEMENT, () -> bench.kinkCause(1, 300));
+        checks.same("steepest of 2", bench.steepest(2), 300);
+        checks.same("steepest of 1", bench.steepest(1), 0);
+        checks.same("steepest of 0", bench.steepest(0), 500);
     }
 
     private static void promise37() {

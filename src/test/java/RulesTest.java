@@ -135,6 +135,11 @@ public final class RulesTest {
         bench.removeCredit(0);
         checks.same("remove all", bench.removeCredit(0), 0);
         checks.refused("remove from none", INDEX, () -> bench.removeCredit(0));
+        Checks.rules(bench, "k1,0,0,0;k2,0,0,0;k3,0,0,0;k4,0,0,0;k5,0,0,0;k6,0,0,0");
+        bench.closeYear();
+        checks.same("remove from six", bench.removeCredit(0), 5);
+        checks.same("remove from five", bench.removeCredit(4), 4);
+        order(bench, "remove from five", 2, 3, 4, 5);
     }
 
     private static void promise14() {

@@ -102,6 +102,7 @@ public final class TextTest {
                 "b0:1,1:1,2:1,3:1,4:1,5:1,6:1,7:1,8:1,9:1,10:1,11:1");
         notAllowed(bench, "brackets that begin above 0", "b1:1");
         notAllowed(bench, "equal thresholds", "b0:1,5:1,5:2");
+        notAllowed(bench, "0 twice", "b0:1,0:2");
         notAllowed(bench, "falling thresholds", "b0:1,5:1,4:2");
         notAllowed(bench, "a rate above 999", "b0:1000");
         notAllowed(bench, "a later rate above 999", "b0:1,1:1000");
@@ -121,6 +122,7 @@ public final class TextTest {
         notAllowed(bench, "one credit more", "k0,0,0,0");
         checks.same("charges", bench.chargeCount(), 4);
         checks.same("credits", bench.creditCount(), 6);
+        checks.same("the greatest rates", Checks.rules(bench, "b0:999,1:999;a0,0,999;m0,999"), 3);
         checks.same("eighty characters", Checks.rules(new TaxWorkbench(),
                 "m0,0;m0,0;m0,0;m0,0;m0,0;m0,0;m0,0;m0,0;m0,0;m0,0;m0,0;m0,0;m0,0;m0,0;m0,0;m0,00"), 16);
     }
