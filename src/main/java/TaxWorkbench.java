@@ -299,7 +299,7 @@ public final class TaxWorkbench {
                 ledger.rules.carryOn(i, assessAlone(i));
             } else if (!isSecond(i)) {
                 couple.settle(ledger, i, ledger.partners[i]);
-                couple.carryOn(ledger);
+                couple.carryBoth(ledger);
             }
         }
         ledger.years++;
@@ -972,7 +972,7 @@ public final class TaxWorkbench {
         }
 
         /** Needs the couple to be settled. */
-        void carryOn(Ledger ledger) {
+        void carryBoth(Ledger ledger) {
             if (prefersTogether()) {
                 assessment.takeTogether(ledger, first, second);
                 assessment.compute(ledger.rules);
