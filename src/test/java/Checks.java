@@ -39,6 +39,10 @@ final class Checks {
         });
     }
 
+    int count() {
+        return passed + failed;
+    }
+
     void end() {
         System.out.println(name + ": " + passed + " checks as due, " + failed + " not");
         if (failed > 0 || passed == 0) {
