@@ -268,6 +268,10 @@ final class ChangeEdges {
             s.same("the second one", bench.personData(0, 0), 1);
             bench.undo();
             s.same("all", State.nowOf(bench), State.nowOf(new TaxWorkbench()));
+            TaxWorkbench typed = Benches.busy();
+            typed.undo();
+            s.same("a character is no change", typed.appendCharacter('4'), 6);
+            s.same("the begun text", typed.addRules(), 1);
         });
         s.test("Returns the number of changes that can still be taken back.", () -> {
             TaxWorkbench bench = Benches.busy();

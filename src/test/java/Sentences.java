@@ -44,8 +44,12 @@ final class Sentences {
             tested.add(section + ": " + one);
         }
         int before = checks.count();
-        deed.happen();
-        same("its test checks something", checks.count() > before, true);
+        Object end = Checks.outcome(() -> {
+            deed.happen();
+            return "checked";
+        });
+        same("its test ends", end, "checked");
+        same("its test checks something", checks.count() > before + 1, true);
     }
 
     private List<String> holding(String words) {

@@ -71,6 +71,7 @@ final class TaxEdges {
             bench.setPerson(0, 0, 0, 9);
             s.same("the greatest credit", bench.creditPart(0, 0, VALUE), 89991000000L);
             s.same("the least marginal rate", Checks.with("b0:1").marginalRate(0, 0), 1000);
+            allBeyondInt();
         });
         s.in("Details");
         s.test("All parts of a tax are in millionths.", () -> {
@@ -82,6 +83,26 @@ final class TaxEdges {
             part("b0:1", SCHEDULED, 1, 1000);
             part("b0:1;a1,2,1", TAXABLE, 3, 2001000);
         });
+    }
+
+    /** Each kind of amount, with one that an int could not hold. */
+    private void allBeyondInt() {
+        String rules = "a9999,9999,0;b0:999;m0,999;c0,9999;k9999,0,0,0*;n9999,0,0,0*";
+        TaxWorkbench bench = Benches.alone(rules, 0, 9999, 9999, 1);
+        long[] parts = {9999000000L, 9999000000L, 9989001000L, 19978002000L, 19978002000L, 29977002000L};
+        for (int i = 0; i < 6; i++) {
+            s.same("tax part " + i, bench.taxPart(0, i), parts[i]);
+        }
+        s.same("used", bench.creditPart(0, 0, USED), 9999000000L);
+        s.same("rest", bench.creditPart(0, 0, REST), 19978002000L);
+        s.same("curve", bench.curve(0, 9999), 9979002000L);
+        s.same("household", bench.householdTax(0), 9979002000L);
+        s.same("total", bench.totalTax(), 9979002000L + 5 * 9999000000L);
+        bench.setPerson(0, 0, 0, 9);
+        s.same("carried on", bench.creditPart(0, 0, CARRIED_ON), 79992000000L);
+        s.same("lost", bench.creditPart(0, 1, LOST), 89991000000L);
+        bench.closeYear();
+        s.same("carried", bench.carried(0, 0), 79992000000L);
     }
 
     private void cases() {
@@ -221,6 +242,9 @@ final class TaxEdges {
         part("b0:100;c100,1;c101,2;c100,4;c0,8", CHARGED, 101, 10100000 + 15000000);
         part("b0:100;a100,9999,0;c100,5", CHARGED, 100, 5000000);
         part("b0:100;c100,5", BASE, 100, 10000000);
+        joint("c100,5", 199, 0);
+        joint("c100,5", 200, 5000000);
+        joint("c0,5", 0, 5000000);
     }
 
     private void creditValues() {
@@ -253,6 +277,10 @@ final class TaxEdges {
             value("k50,0,100,100", 50, 51, 0, 49900000);
             value("k50,0,100,0", 9999, 9999, 0, 50000000);
             value("k50,100,100,100", 101, 0, 0, 10000000);
+            joint("r50,0,100,100", 200, -50000000);
+            joint("r50,0,100,100", 201, -49900000);
+            joint("r50,0,100,100", 699, -100000);
+            joint("r50,0,100,100", 701, 0);
         });
         s.test("less its rate of phase-out times what x is above its start (f times), but at least 0.", () -> {
             value("n50,0,100,100", 599, 0, 0, 100000);

@@ -97,24 +97,29 @@ public final class TextTest {
         TaxWorkbench bench = new TaxWorkbench();
         checks.same("six brackets", Checks.rules(bench, "b0:1,1:2,2:3,3:4,4:5,5:6"), 1);
         checks.same("their number", bench.bracketCount(), 6);
-        notAllowed(bench, "seven brackets", "b0:1,1:2,2:3,3:4,4:5,5:6,6:7");
-        notAllowed(bench, "twelve brackets",
+        notAllowed("seven brackets", "b0:1,1:2,2:3,3:4,4:5,5:6,6:7");
+        notAllowed("twelve brackets",
                 "b0:1,1:1,2:1,3:1,4:1,5:1,6:1,7:1,8:1,9:1,10:1,11:1");
-        notAllowed(bench, "brackets that begin above 0", "b1:1");
-        notAllowed(bench, "equal thresholds", "b0:1,5:1,5:2");
-        notAllowed(bench, "0 twice", "b0:1,0:2");
-        notAllowed(bench, "falling thresholds", "b0:1,5:1,4:2");
-        notAllowed(bench, "a rate above 999", "b0:1000");
-        notAllowed(bench, "a later rate above 999", "b0:1,1:1000");
-        notAllowed(bench, "brackets not allowed before others", "b1:1;b0:1");
-        notAllowed(bench, "allowance's rate", "a0,0,1000");
-        notAllowed(bench, "minimum's rate", "m0,1000");
-        notAllowed(bench, "phase-in", "n0,1000,0,0");
-        notAllowed(bench, "phase-out", "r0,0,0,1000");
-        notAllowed(bench, "phase-out for each", "k0,0,0,1000*");
-        notAllowed(bench, "five charges", "c0,0;c0,0;c0,0;c0,0;c0,0");
-        notAllowed(bench, "seven credits",
+        notAllowed("brackets that begin above 0", "b1:1");
+        notAllowed("equal thresholds", "b0:1,5:1,5:2");
+        notAllowed("0 twice", "b0:1,0:2");
+        notAllowed("falling thresholds", "b0:1,5:1,4:2");
+        notAllowed("a rate above 999", "b0:1000");
+        notAllowed("a later rate above 999", "b0:1,1:1000");
+        notAllowed("brackets not allowed before others", "b1:1;b0:1");
+        notAllowed("allowance's rate", "a0,0,1000");
+        notAllowed("minimum's rate", "m0,1000");
+        notAllowed("phase-in", "n0,1000,0,0");
+        notAllowed("phase-out", "r0,0,0,1000");
+        notAllowed("phase-out for each", "k0,0,0,1000*");
+        notAllowed("five charges", "c0,0;c0,0;c0,0;c0,0;c0,0");
+        notAllowed("seven credits",
                 "n0,0,0,0;r0,0,0,0;k0,0,0,0;n0,0,0,0;r0,0,0,0;k0,0,0,0;n0,0,0,0");
+        promise3Full();
+    }
+
+    private static void promise3Full() {
+        TaxWorkbench bench = new TaxWorkbench();
         checks.same("four charges", Checks.rules(bench, "c9999,9999;c1,1;c2,2;c3,3"), 4);
         checks.same("six credits", Checks.rules(bench,
                 "n9999,999,9999,999;r1,0,0,0;k2,0,0,0;n3,0,0,0;r4,0,0,0;k5,0,0,0*"), 6);
@@ -125,6 +130,10 @@ public final class TextTest {
         checks.same("the greatest rates", Checks.rules(bench, "b0:999,1:999;a0,0,999;m0,999"), 3);
         checks.same("eighty characters", Checks.rules(new TaxWorkbench(),
                 "m0,0;m0,0;m0,0;m0,0;m0,0;m0,0;m0,0;m0,0;m0,0;m0,0;m0,0;m0,0;m0,0;m0,0;m0,0;m0,00"), 16);
+    }
+
+    private static void notAllowed(String what, String text) {
+        notAllowed(Checks.with("b0:1,1:2,2:3,3:4,4:5,5:6"), what, text);
     }
 
     /** Nothing of the text may be taken, its allowed items neither, and it is no change. */
