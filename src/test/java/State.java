@@ -1,34 +1,59 @@
-/** All that can be asked of a bench's state, as a text to compare. */
+/** All that can be asked of a bench's state, as a text to compare: a line for each answer. */
 final class State {
     static final String ANSWERED = "nothing thrown";
-    private static final int MOST_CHANGES = 6;
+    static final int MOST_CHANGES = 6;
 
     interface Use {
         void on(TaxWorkbench bench);
     }
 
     private final StringBuilder told = new StringBuilder();
-    private final Benches.Recipe recipe;
-    private final Use use;
 
-    private State(Benches.Recipe recipe, Use use) {
-        this.recipe = recipe;
-        this.use = use;
+    private State() {
     }
 
     /** The whole state of what the recipe makes, once it was used so. */
     static String after(Benches.Recipe recipe, Use use) {
-        State state = new State(recipe, use);
-        state.text();
-        return state.apartFromText();
+        State state = new State();
+        TaxWorkbench bench = used(recipe, use);
+        state.text(bench);
+        state.answers(bench);
+        return state.told + butTextAfter(recipe, use);
+    }
+
+    /** The fault position, and what becomes of the text with one character more. */
+    static String textAfter(Benches.Recipe recipe, Use use) {
+        State state = new State();
+        state.text(used(recipe, use));
+        return state.told.toString();
     }
 
     static String butTextAfter(Benches.Recipe recipe, Use use) {
-        return new State(recipe, use).apartFromText();
+        State state = new State();
+        for (int undone = 0; undone <= MOST_CHANGES; undone++) {
+            TaxWorkbench bench = used(recipe, use);
+            for (int i = 0; i < undone; i++) {
+                state.tell("undo", Checks.outcome(bench::undo));
+            }
+            state.answers(bench);
+        }
+        return state.told + restoredAfter(recipe, use);
+    }
+
+    static String restoredAfter(Benches.Recipe recipe, Use use) {
+        State state = new State();
+        TaxWorkbench bench = used(recipe, use);
+        state.tell("restore", outcome(bench, TaxWorkbench::restore));
+        state.answers(bench);
+        return state.told.toString();
+    }
+
+    static String nowAfter(Benches.Recipe recipe, Use use) {
+        return nowOf(used(recipe, use));
     }
 
     static String nowOf(TaxWorkbench bench) {
-        State state = new State(null, null);
+        State state = new State();
         state.answers(bench);
         return state.told.toString();
     }
@@ -42,36 +67,21 @@ final class State {
     }
 
     /** A bench is made for each look, as an object serves for 512 calls only. */
-    private TaxWorkbench next() {
+    private static TaxWorkbench used(Benches.Recipe recipe, Use use) {
         TaxWorkbench bench = recipe.make();
         outcome(bench, use);
         return bench;
     }
 
-    private void text() {
-        TaxWorkbench bench = next();
+    private void tell(String what, Object answer) {
+        told.append(what).append(' ').append(answer).append('\n');
+    }
+
+    private void text(TaxWorkbench bench) {
         tell("fault", bench.faultPosition());
         tell("text's length", Checks.outcome(() -> bench.appendCharacter('4')));
         tell("text's items", Checks.outcome(bench::addRules));
-        answers(bench);
-    }
-
-    private String apartFromText() {
-        for (int undone = 0; undone <= MOST_CHANGES; undone++) {
-            TaxWorkbench bench = next();
-            for (int i = 0; i < undone; i++) {
-                tell("undo", Checks.outcome(bench::undo));
-            }
-            answers(bench);
-        }
-        TaxWorkbench bench = next();
-        tell("restore", outcome(bench, TaxWorkbench::restore));
-        answers(bench);
-        return told.toString();
-    }
-
-    private void tell(String what, Object answer) {
-        told.append(what).append(' ').append(answer).append('\n');
+        tell("text's numbers", bench.allowance(3) + " " + bench.allowance(4));
     }
 
     private void answers(TaxWorkbench bench) {
@@ -101,14 +111,15 @@ final class State {
     }
 
     private void person(TaxWorkbench bench, int person) {
+        String who = "person " + person + " ";
         for (int i = 0; i < 3; i++) {
-            tell("person " + person + " part " + i, bench.personData(person, i));
+            tell(who + "part " + i, bench.personData(person, i));
         }
-        tell("partner", Checks.outcome(() -> bench.partner(person)));
+        tell(who + "partner", Checks.outcome(() -> bench.partner(person)));
         for (int i = 0; i < bench.creditCount(); i++) {
-            tell("carried " + i, bench.carried(person, i));
+            tell(who + "carried " + i, bench.carried(person, i));
         }
-        tell("tax", bench.tax(person));
-        tell("household", bench.householdTax(person));
+        tell(who + "tax", bench.tax(person));
+        tell(who + "household", bench.householdTax(person));
     }
 }
